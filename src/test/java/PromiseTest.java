@@ -37,6 +37,7 @@ public final class PromiseTest {
         product();
         look();
         fault();
+        widestRing();
         C.finish();
     }
 
@@ -825,6 +826,44 @@ public final class PromiseTest {
             fine(x, call);
             C.due("fault() after call " + call, x.fault(), 0);
         }
+    }
+
+    /** All that goes over whole rows, on a ring of 60, where each row is full to its last place. */
+    private static void widestRing() {
+        HoleMask x = new HoleMask();
+        x.ring(60);
+        for (int what = 0; what < 3; what++) {
+            C.taken(x, "sheet(2, 60)", x.sheet(2, 60), 60);
+            x.entry(0, 1);
+            C.taken(x, "entry(59, 1)", x.entry(59, 1));
+            C.taken(x, "lay(" + what + ")", x.lay(what));
+            C.due("at(" + what + ", 59)", x.at(what, 59), 1);
+        }
+        x.sheet(2, 60);
+        x.entry(0, 2);
+        C.refused(x, "lay(0), 2 at 0", x.lay(0), 1);
+        x.entry(0, 0);
+        x.entry(59, 2);
+        C.refused(x, "lay(0), 2 at 59", x.lay(0), 1);
+        C.taken(x, "turn(1)", x.turn(1));
+        C.due("at(0, 58)", x.at(0, 58), 1);
+        C.taken(x, "meets(1)", x.meets(1), 1);
+        C.taken(x, "meets(59)", x.meets(59), 1);
+        C.taken(x, "off()", x.off(), 2);
+        C.taken(x, "shadow(0)", x.shadow(0), 1);
+        C.taken(x, "shadow(1)", x.shadow(1), 2);
+        C.taken(x, "cast()", x.cast());
+        C.due("at(2, 2)", x.at(2, 2), 1);
+        C.taken(x, "points(0)", x.points(0), 1);
+        C.taken(x, "fold(4, 15, 3, 14)", x.fold(4, 15, 3, 14), 1);
+        C.taken(x, "fold(15, 4, 13, 2)", x.fold(15, 4, 13, 2), 1);
+        x.miss(59);
+        C.taken(x, "count(3)", x.count(3), 1);
+        C.taken(x, "anti()", x.anti());
+        C.taken(x, "count(1)", x.count(1), 58);
+        C.refused(x, "sure()", x.sure(), -1, 1);
+        x.table(0, 5);
+        C.taken(x, "look(31)", x.look(31), 1);
     }
 
     /** Calls that are never refused, whatever they answer. */
