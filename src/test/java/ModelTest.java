@@ -1,5 +1,4 @@
 import java.util.Arrays;
-import java.util.NoSuchElementException;
 
 /** Long runs of calls, ordinary and wild, on HoleMask and on PlainMask: all answers are alike. */
 public final class ModelTest {
@@ -34,24 +33,18 @@ public final class ModelTest {
         return (int) Math.floorMod(seed >>> 33, (long) bound);
     }
 
-    private static void same(HoleMask x, PlainMask plain, String name, int... v) {
-        Long want = plain.call(name, v);
-        Long got;
-        try {
-            got = call(x, name, v);
-        } catch (NoSuchElementException e) {
-            got = name.equals("at") ? null : Long.valueOf(-99);
-        }
-        C.due(name + Arrays.toString(v), String.valueOf(got), String.valueOf(want));
+    private static void same(Calls.Answerer x, Calls.Answerer plain, String name, int... v) {
+        String want = String.valueOf(plain.call(name, v));
+        C.due(name + Arrays.toString(v), String.valueOf(x.call(name, v)), want);
     }
 
     /** A call and its fault. */
-    private static void both(HoleMask x, PlainMask plain, String name, int... v) {
+    private static void both(Calls.Answerer x, Calls.Answerer plain, String name, int... v) {
         same(x, plain, name, v);
         same(x, plain, "fault");
     }
 
-    private static void allOf(HoleMask x, PlainMask plain, int n) {
+    private static void allOf(Calls.Answerer x, Calls.Answerer plain, int n) {
         for (int what = 0; what < 3; what++) {
             for (int i = 0; i <= n; i++) {
                 same(x, plain, "at", what, i);
@@ -64,8 +57,8 @@ public final class ModelTest {
 
     /** Any calls with any numbers, small ones most. */
     private static void wildRun(int run) {
-        HoleMask x = new HoleMask();
-        PlainMask plain = new PlainMask();
+        Calls.Answerer x = Calls.of(new HoleMask());
+        Calls.Answerer plain = Calls.of(new PlainMask());
         for (int step = 0; step < 150; step++) {
             int[] v = new int[4];
             for (int i = 0; i < 4; i++) {
@@ -80,7 +73,7 @@ public final class ModelTest {
         allOf(x, plain, 60);
     }
 
-    private static int fillMask(HoleMask x, PlainMask plain, int n, int kinds) {
+    private static int fillMask(Calls.Answerer x, Calls.Answerer plain, int n, int kinds) {
         same(x, plain, "ring", n);
         for (int i = 0; i < n; i++) {
             same(x, plain, "set", 0, i, kinds == 2 ? below(2) : kinds == 1 ? 2 * below(2) - 1 : below(3) - 1);
@@ -90,8 +83,8 @@ public final class ModelTest {
 
     /** Masks of up to 14 places undone, solved, lost. */
     private static void undoingRun(int run) {
-        HoleMask x = new HoleMask();
-        PlainMask plain = new PlainMask();
+        Calls.Answerer x = Calls.of(new HoleMask());
+        Calls.Answerer plain = Calls.of(new PlainMask());
         int n = fillMask(x, plain, run % 3 == 0 ? 14 : 1 + below(15), below(3));
         for (int i = 0; i < n; i++) {
             same(x, plain, "set", 1, i, below(2001) - 1000);
@@ -119,8 +112,8 @@ public final class ModelTest {
 
     /** Points under masks of all kinds, with some readings missing or off. */
     private static void pointsRun(int run) {
-        HoleMask x = new HoleMask();
-        PlainMask plain = new PlainMask();
+        Calls.Answerer x = Calls.of(new HoleMask());
+        Calls.Answerer plain = Calls.of(new PlainMask());
         int n = fillMask(x, plain, run % 10 == 0 ? 60 : 1 + below(24), below(3));
         same(x, plain, "set", 1, below(n), below(10));
         same(x, plain, "set", 1, below(n), below(10));
@@ -151,8 +144,8 @@ public final class ModelTest {
     private static void everyMask() {
         for (int n = 1, masks = 3; n <= 6; n++, masks *= 3) {
             for (int code = 0; code < masks; code++) {
-                HoleMask x = new HoleMask();
-                PlainMask plain = new PlainMask();
+                Calls.Answerer x = Calls.of(new HoleMask());
+                Calls.Answerer plain = Calls.of(new PlainMask());
                 same(x, plain, "ring", n);
                 for (int i = 0, rest = code; i < n; i++, rest /= 3) {
                     same(x, plain, "set", 0, i, rest % 3 - 1);
@@ -169,55 +162,5 @@ public final class ModelTest {
                 same(x, plain, "shadow", n / 2);
             }
         }
-    }
-
-    private static Long call(HoleMask x, String name, int[] v) {
-        switch (name) {
-            case "ring": return truth(x.ring(v[0]));
-            case "sheet": return (long) x.sheet(v[0], v[1]);
-            case "entry": return truth(x.entry(v[0], v[1]));
-            case "lay": return truth(x.lay(v[0]));
-            case "set": return truth(x.set(v[0], v[1], v[2]));
-            case "miss": return truth(x.miss(v[0]));
-            case "at": return (long) x.at(v[0], v[1]);
-            case "count": return (long) x.count(v[0]);
-            case "shadow": return (long) x.shadow(v[0]);
-            case "cast": return truth(x.cast());
-            case "meets": return (long) x.meets(v[0]);
-            case "off": return (long) x.off();
-            case "turn": return truth(x.turn(v[0]));
-            case "anti": return truth(x.anti());
-            case "fold": return (long) x.fold(v[0], v[1], v[2], v[3]);
-            case "rests": return (long) x.rests(v[0]);
-            case "twins": return (long) x.twins(v[0]);
-            case "shift": return (long) x.shift(v[0]);
-            default: return laterCall(x, name, v);
-        }
-    }
-
-    private static Long laterCall(HoleMask x, String name, int[] v) {
-        switch (name) {
-            case "undo": return x.undo();
-            case "back": return x.back(v[0]);
-            case "noise": return x.noise(v[0]);
-            case "rank": return (long) x.rank();
-            case "lost": return (long) x.lost();
-            case "solve": return (long) x.solve();
-            case "sure": return (long) x.sure();
-            case "points": return (long) x.points(v[0]);
-            case "point": return (long) x.point(v[0], v[1]);
-            case "table": return (long) x.table(v[0], v[1]);
-            case "twice": return (long) x.twice();
-            case "swap": return truth(x.swap(v[0], v[1]));
-            case "sign": return (long) x.sign(v[0], v[1]);
-            case "product": return (long) x.product(v[0], v[1]);
-            case "look": return (long) x.look(v[0]);
-            case "fault": return (long) x.fault();
-            default: throw new IllegalArgumentException(name);
-        }
-    }
-
-    private static Long truth(boolean answer) {
-        return answer ? 1L : 0L;
     }
 }

@@ -690,7 +690,6 @@ public final class PromiseTest {
         C.due("count(5)", x.count(5), 32);
         for (int p : new int[] {3, 7, 11, 19, 23, 31}) {
             C.taken(x, "table(1, " + p + ")", x.table(1, p), p + 1);
-            square(x, p + 1);
         }
         x.table(1, 7);
         int[] second = {1, -1, 1, 1, -1, 1, -1, -1};
@@ -702,14 +701,6 @@ public final class PromiseTest {
         C.due("sign(2, 1)", x.sign(2, 1), -1);
         C.due("sign(4, 1)", x.sign(4, 1), fourth[1]);
         C.due("sign(4, 4)", x.sign(4, 4), -1);
-    }
-
-    private static void square(HoleMask x, int size) {
-        for (int a = 0; a < size; a++) {
-            for (int b = 0; b < size; b++) {
-                C.due("product(" + a + ", " + b + ")", x.product(a, b), a == b ? size : 0);
-            }
-        }
     }
 
     private static void twice() {
@@ -728,12 +719,10 @@ public final class PromiseTest {
         }
         x.twice();
         C.taken(x, "twice()", x.twice(), 32);
-        square(x, 32);
         C.refused(x, "twice()", x.twice(), -1, 3);
         C.due("count(5)", x.count(5), 32);
         x.table(1, 11);
         C.taken(x, "twice()", x.twice(), 24);
-        square(x, 24);
         C.refused(x, "twice()", x.twice(), -1, 3);
         x.table(0, 0);
         C.taken(x, "twice()", x.twice(), 2);
