@@ -61,6 +61,8 @@ public final class EdgeTableTest {
             + "sign(1,1)=-1 sign(1,31)=-1 sign(31,1)=1 sign(1,2)=1 sign(2,1)=-1");
         E.edge(29, "a smaller one in place of a larger one", "table(0,5) table(0,1)=2 count(5)=2 signs(1)=1,-1 sign(2,0)=0 sign(0,2)=0");
         E.edge(29, "a larger one in place of a turned one", "table(0,1) swap(1,1) table(0,2)=4 signs(1)=1,-1,1,-1 signs(3)=1,-1,-1,1");
+        E.edge(29, "row 0 that became its contrary is as at first", "table(0,1) swap(0,0) table(0,2)=4 signs(0)=1,1,1,1 "
+            + "swap(0,0) table(1,3)=4 signs(0)=1,1,1,1 swap(0,0) table(0,0)=1 sign(0,0)=1");
         E.edge(29, "the same again undoes a turn", RICH + "table(1,3)=4 signs(1)=1,-1,1,-1 signs(2)=1,-1,-1,1");
     }
 
@@ -103,6 +105,8 @@ public final class EdgeTableTest {
             RICH + "twice()=8 signs(1)=1,-1,-1,1,1,-1,-1,1 signs(5)=1,-1,-1,1,-1,1,1,-1 signs(4)=1,1,1,1,-1,-1,-1,-1");
         E.edge(30, "the last row before the new ones and the first new one",
             "table(0,1) twice()=4 signs(1)=1,-1,1,-1 signs(2)=1,1,-1,-1");
+        E.edge(30, "of a table in place of a larger one", "table(1,31) swap(0,0) swap(1,1) table(0,1) twice()=4 signs(0)=1,1,1,1 "
+            + "signs(1)=1,-1,1,-1 signs(2)=1,1,-1,-1 signs(3)=1,-1,-1,1");
         E.edge(30, "ring, back, sheet and points stay", RICH + "twice()=8 row(0)=1,1,0 row(1)=7,-8,9 backs()=1,-1,1 count(6)=5 count(7)=45");
     }
 
@@ -141,6 +145,7 @@ public final class EdgeTableTest {
         E.edge(33, "a row with itself", "table(0,0) product(0,0)=1 table(0,5) product(31,31)=32 product(0,0)=32");
         E.edge(33, "the first row with the last", "table(0,5) product(0,31)=0 product(31,0)=0 table(1,3) product(0,3)=0 product(3,0)=0");
         E.edge(33, "a row that became its contrary", "table(0,5) swap(31,31) product(31,31)=32 product(31,0)=0");
+        E.edge(33, "of a table in place of a larger one", "table(1,31) swap(0,0) swap(1,1) table(0,1) product(0,1)=0 product(1,1)=2");
         E.eachStill(33, "no table, asked ahead", NO_TABLE, "product(0,0)=0!2", "product(-1,0)=0!2", "product(0,32)=0!2",
             "product(MIN,MAX)=0!2");
         E.eachStill(33, "no such row", RICH, "product(-1,0)=0!1", "product(0,-1)=0!1", "product(4,0)=0!1", "product(0,4)=0!1",

@@ -51,6 +51,7 @@ public final class EdgeUndoTest {
         E.edge(21, "j 0 and j n - 1", "mask(1,0,1,1) undo()=3 back(0)=1 back(1)=1 back(2)=1 back(3)=-2");
         E.edge(21, "j 13 of 14", "ring(14) set(0,1,-1) undo()=1 back(13)=-1 back(12)=0 back(0)=0");
         E.edge(21, "j 0 of one place", "mask(1) undo() back(0)=1 back(1)=0!1 back(-1)=0!1");
+        E.edge(21, "no j of a longer back ahead of it", "mask(1,0,1,1) undo()=3 mask(1,1,0) undo()=2 backs()=1,-1,1 back(3)=0!1");
         E.eachStill(21, "no such j", RICH, "back(-1)=0!1", "back(3)=0!1", "back(13)=0!1", "back(14)=0!1",
             "back(MIN)=0!1", "back(MAX)=0!1");
         E.eachStill(21, "no such j of 14", "ring(14) set(0,0,1) undo()", "back(14)=0!1", "back(-1)=0!1", "back(15)=0!1");
@@ -89,6 +90,7 @@ public final class EdgeUndoTest {
         E.edge(22, "what 0 above, what 1 below", "mask(1,1,0) undo() noise(0)=3 noise(1)=4");
         E.edge(22, "in lowest terms", "mask(1,1,1,-1) undo() noise(0)=1 noise(1)=4 rests(7) undo()=6 noise(0)=4 noise(1)=9");
         E.edge(22, "a whole number", "mask(-1) undo() noise(0)=1 noise(1)=1 ring(14) set(0,13,-1) undo() noise(0)=1 noise(1)=1");
+        E.edge(22, "nothing of a longer back ahead of it", "mask(1,0,1,1) undo()=3 mask(1,1,0) undo()=2 noise(0)=3 noise(1)=4");
         E.eachStill(22, "another what", RICH, "noise(-1)=0!1", "noise(2)=0!1", "noise(MIN)=0!1", "noise(MAX)=0!1");
         E.eachStill(22, "no back", "mask(1,1,0)", "noise(0)=0!2", "noise(1)=0!2");
         E.eachStill(22, "no back of a mask that can not be undone", LOSING + "undo()", "noise(0)=0!2", "noise(1)=0!2");

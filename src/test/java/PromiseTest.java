@@ -38,6 +38,7 @@ public final class PromiseTest {
         look();
         fault();
         widestRing();
+        wholeLife();
         C.finish();
     }
 
@@ -853,6 +854,16 @@ public final class PromiseTest {
         C.refused(x, "sure()", x.sure(), -1, 1);
         x.table(0, 5);
         C.taken(x, "look(31)", x.look(31), 1);
+    }
+
+    /** The 512th call still answers, though all those ahead of it were the dearest there are. */
+    private static void wholeLife() {
+        HoleMask x = new HoleMask();
+        x.ring(60);
+        for (int call = 2; call < 512; call++) {
+            C.due("points(1000) as call " + call, x.points(1000), 143911);
+        }
+        C.due("count(7) as call 512", x.count(7), 143911);
     }
 
     /** Calls that are never refused, whatever they answer. */
