@@ -182,7 +182,7 @@ public final class HoleMask {
         return 0;
     }
 
-    // ---- masks that are made
+    // ---- masks that are made (a new RING as by ring(), then THE MASK)
 
     public int rests(int p) {
         if (refuses(isRestPrime(p) ? FINE : BAD_NUMBER)) {

@@ -77,6 +77,10 @@ final class Script {
         return object.call(name, v);
     }
 
+    int made() {
+        return made;
+    }
+
     private void step(String name, int[] v, String want, String fault) {
         switch (name) {
             case "mask":
